@@ -451,7 +451,7 @@ public final class PairScales {
             int before = 1;
             for (int step = 0; step < size - 1; step++) {
                 int pivot = matrix[step][step];
-                // No rows need be swapped: with a pivot of 0, some things aren't joined with others.
+                // No rows need be swapped: a pivot of 0 tells of things that aren't joined.
                 if (pivot == 0) {
                     return 0;
                 }
