@@ -45,24 +45,6 @@ public final class PairScalesEdges extends EdgeTest {
         return x;
     }
 
-    private static PairScales like(int things) {
-        PairScales x = new PairScales(things);
-        for (int i = 0; i < things; i++) {
-            for (int j = i + 1; j < things; j++) {
-                x.say(i, j, 1, 1);
-            }
-        }
-        return x;
-    }
-
-    /** Each thing over the next one, from the first one on, and the last one over the first one. */
-    private static void sayRing(PairScales x, int first, int... sayings) {
-        int size = sayings.length / 2;
-        for (int k = 0; k < size; k++) {
-            x.say(first + k, first + (k + 1) % size, sayings[2 * k], sayings[2 * k + 1]);
-        }
-    }
-
     private static void dueSaid(PairScales x, int i, int j, int top, int bottom) {
         due("said(" + i + ", " + j + ", 0)", x.said(i, j, 0), top);
         due("said(" + i + ", " + j + ", 1)", x.said(i, j, 1), bottom);
@@ -346,35 +328,10 @@ public final class PairScalesEdges extends EdgeTest {
         }
     }
 
-    private static void dueWorst(PairScales x, int[] three, int top, int bottom) {
-        for (int k = 0; k < 3; k++) {
-            due("worst(" + k + ")", x.worst(k), three[k]);
-        }
-        due("worst(3)", x.worst(3), top);
-        due("worst(4)", x.worst(4), bottom);
-    }
-
-    private static int[][] allThrees() {
-        int[][] threes = new int[20][];
-        int at = 0;
-        for (int i = 0; i < 6; i++) {
-            for (int j = i + 1; j < 6; j++) {
-                for (int k = j + 1; k < 6; k++) {
-                    threes[at++] = new int[] {i, j, k};
-                }
-            }
-        }
-        return threes;
-    }
-
     private static void sayThree(PairScales x, int[] three) {
         x.say(three[0], three[1], 1, 1);
         x.say(three[1], three[2], 1, 1);
         x.say(three[0], three[2], 1, 1);
-    }
-
-    private static boolean has(int[] three, int thing) {
-        return three[0] == thing || three[1] == thing || three[2] == thing;
     }
 
     /** Says p by q of two of the three that the other ones don't hold both. */
@@ -677,12 +634,6 @@ public final class PairScalesEdges extends EdgeTest {
         due("order(1, 0), 6 by 8 and 3 by 4", y.order(1, 0), 0);
         due("order(0, 2)", y.order(0, 2), 2);
         due("order(2, 0)", y.order(2, 0), 1);
-    }
-
-    private static void dueLeast(PairScales x, int top, int bottom, int size) {
-        due("least(0)", x.least(0), top);
-        due("least(1)", x.least(1), bottom);
-        due("least(2)", x.least(2), size);
     }
 
     private static void likeRootsOfFewest() {

@@ -4,7 +4,7 @@
  */
 public final class PairScalesSpanEdges extends EdgeTest {
     /** All pairs, each from 1 by 1 to 1 by 1. */
-    private static PairScales like(int things) {
+    private static PairScales likeSpans(int things) {
         PairScales x = new PairScales(things);
         for (int i = 0; i < things; i++) {
             for (int j = i + 1; j < things; j++) {
@@ -31,11 +31,6 @@ public final class PairScalesSpanEdges extends EdgeTest {
             int q = sayings[2 * k + 1];
             x.span(first + k, first + (k + 1) % size, 1010 * p + 101 * q);
         }
-    }
-
-    private static void dueBound(PairScales x, int i, int j, int top, int bottom) {
-        due("bound(" + i + ", " + j + ", 0)", x.bound(i, j, 0), top);
-        due("bound(" + i + ", " + j + ", 1)", x.bound(i, j, 1), bottom);
     }
 
     /** Read off the number's text, not reckoned as the class does it. */
@@ -158,7 +153,7 @@ public final class PairScalesSpanEdges extends EdgeTest {
             }
         }
         for (int things = 2; things <= 6; things++) {
-            PairScales x = like(things);
+            PairScales x = likeSpans(things);
             for (int no : outside(things)) {
                 due("unspan(" + no + ", 0)", x.unspan(no, 0), false);
                 due("unspan(0, " + no + ")", x.unspan(0, no), false);
@@ -175,7 +170,7 @@ public final class PairScalesSpanEdges extends EdgeTest {
 
     private static void dueUnspan(int i, int j) {
         String pair = "(" + i + ", " + j + ")";
-        PairScales x = like(6);
+        PairScales x = likeSpans(6);
         due("unspan" + pair, x.unspan(i, j), true);
         due("unspan" + pair + " again", x.unspan(i, j), false);
         due("unspan the other way", x.unspan(j, i), false);
@@ -198,7 +193,7 @@ public final class PairScalesSpanEdges extends EdgeTest {
         for (int size = 2; size <= 6; size++) {
             due("can() without spans", new PairScales(size).can(), true);
             due("can() of a row", row(size).can(), true);
-            due("can() of all alike", like(size).can(), true);
+            due("can() of all alike", likeSpans(size).can(), true);
         }
         for (int size = 3; size <= 6; size++) {
             PairScales x = new PairScales(size);
@@ -226,7 +221,7 @@ public final class PairScalesSpanEdges extends EdgeTest {
         for (int i = 0; i < 6; i++) {
             for (int j = 0; j < 6; j++) {
                 if (i != j) {
-                    PairScales x = like(6);
+                    PairScales x = likeSpans(6);
                     x.span(i, j, 9898);
                     due("can(), only (" + i + ", " + j + ") being off", x.can(), false);
                     x.span(i, j, 8998);
@@ -309,7 +304,7 @@ public final class PairScalesSpanEdges extends EdgeTest {
     private static void boundOfNoSuchThing() {
         sentence("Promise 16, 'NONE .. if there is .. no such THING'");
         for (int things = 2; things <= 6; things++) {
-            PairScales x = like(things);
+            PairScales x = likeSpans(things);
             for (int no : outside(things)) {
                 dueBound(x, no, 0, NONE, NONE);
                 dueBound(x, 0, no, NONE, NONE);
@@ -323,7 +318,7 @@ public final class PairScalesSpanEdges extends EdgeTest {
     private static void boundOfOneOverItself() {
         sentence("Promise 16, 'both are one'");
         for (int things = 2; things <= 6; things++) {
-            PairScales x = like(things);
+            PairScales x = likeSpans(things);
             for (int i = 0; i < things; i++) {
                 dueBound(x, i, i, NONE, NONE);
                 dueBound(x, i, (i + 1) % things, 1, 1);

@@ -80,4 +80,59 @@ abstract class EdgeTest {
         }
         return other;
     }
+
+    /** All pairs, each said to be 1 by 1. */
+    static PairScales like(int things) {
+        PairScales x = new PairScales(things);
+        for (int i = 0; i < things; i++) {
+            for (int j = i + 1; j < things; j++) {
+                x.say(i, j, 1, 1);
+            }
+        }
+        return x;
+    }
+
+    /** Each thing over the next one, from the first one on, and the last one over the first one. */
+    static void sayRing(PairScales x, int first, int... sayings) {
+        int size = sayings.length / 2;
+        for (int k = 0; k < size; k++) {
+            x.say(first + k, first + (k + 1) % size, sayings[2 * k], sayings[2 * k + 1]);
+        }
+    }
+
+    static int[][] allThrees() {
+        int[][] threes = new int[20][];
+        int at = 0;
+        for (int i = 0; i < 6; i++) {
+            for (int j = i + 1; j < 6; j++) {
+                for (int k = j + 1; k < 6; k++) {
+                    threes[at++] = new int[] {i, j, k};
+                }
+            }
+        }
+        return threes;
+    }
+
+    static boolean has(int[] three, int thing) {
+        return three[0] == thing || three[1] == thing || three[2] == thing;
+    }
+
+    static void dueWorst(PairScales x, int[] three, int top, int bottom) {
+        for (int k = 0; k < 3; k++) {
+            due("worst(" + k + ")", x.worst(k), three[k]);
+        }
+        due("worst(3)", x.worst(3), top);
+        due("worst(4)", x.worst(4), bottom);
+    }
+
+    static void dueLeast(PairScales x, int top, int bottom, int size) {
+        due("least(0)", x.least(0), top);
+        due("least(1)", x.least(1), bottom);
+        due("least(2)", x.least(2), size);
+    }
+
+    static void dueBound(PairScales x, int i, int j, int top, int bottom) {
+        due("bound(" + i + ", " + j + ", 0)", x.bound(i, j, 0), top);
+        due("bound(" + i + ", " + j + ", 1)", x.bound(i, j, 1), bottom);
+    }
 }
