@@ -36,7 +36,7 @@ public final class PairScalesClose extends EdgeTest {
     };
 
     /**
-     * Two rings the roots of which lie close together, the last two by less than 1 in 3,000,000: of
+     * Two rings the roots of which lie close together, those of five and six by 1 in 4,000,000: of
      * the greater one and of the less one the top, the bottom and how many things; i, j that only the
      * greater one has; then all sayings as i, j, p, q. Two rings of six can't be the two greatest ones.
      */
@@ -469,17 +469,22 @@ public final class PairScalesClose extends EdgeTest {
         dueBound(small, 0, 5, 1, 45);
     }
 
-    /** Tops times bottoms of these two do not fit in an int. */
+    /** 59049 by 59049 and 26244 by 59049 are compared; tops times bottoms don't fit in an int. */
     private static void waysOfManyDigits() {
         sentence("Promise 16, 'the greatest product of lower ENDS on a way from i to j by SPANS', of many digits");
         PairScales x = new PairScales(6);
-        spanWay(x, new int[] {0, 1, 2, 3, 4, 5}, 9, 8, 9, 8, 9, 8, 9, 8, 9, 8);
-        spanWay(x, new int[] {0, 2, 4, 1, 3, 5}, 8, 9, 8, 9, 1, 9, 8, 9, 8, 9);
-        dueBound(x, 0, 5, 59049, 32768);
-        PairScales y = new PairScales(6);
-        spanWay(y, new int[] {0, 2, 4, 1, 3, 5}, 9, 8, 9, 8, 9, 8, 9, 8, 9, 8);
-        spanWay(y, new int[] {0, 1, 2, 3, 4, 5}, 8, 9, 1, 9, 8, 9, 1, 9, 8, 9);
-        dueBound(y, 0, 5, 59049, 32768);
+        x.span(0, 2, 4991);
+        dueBound(x, 0, 2, 4, 9);
+        x.span(0, 1, 9999);
+        x.span(1, 2, 9999);
+        x.span(1, 3, 9999);
+        x.span(2, 3, 9999);
+        x.span(3, 4, 9999);
+        x.span(4, 5, 9999);
+        dueBound(x, 0, 5, 1, 1);
+        dueBound(x, 0, 2, 1, 1);
+        x.unspan(0, 1);
+        dueBound(x, 0, 5, 4, 9);
     }
 
     public static void main(String[] args) {
