@@ -467,6 +467,14 @@ public final class PairScalesClose extends EdgeTest {
         dueBound(small, 0, 5, 125, 6561);
         spanWay(small, new int[] {0, 3, 4}, 6, 5, 1, 6);
         dueBound(small, 0, 5, 1, 45);
+        // 25 by 56 and 4 by 9, each with 1 by 729 behind it.
+        PairScales smaller = new PairScales(6);
+        spanWay(smaller, new int[] {2, 3, 4, 5}, 1, 9, 1, 9, 1, 9);
+        spanWay(smaller, new int[] {0, 2}, 4, 9);
+        spanWay(smaller, new int[] {0, 1, 2}, 4, 7, 7, 9);
+        dueBound(smaller, 0, 5, 4, 6561);
+        spanWay(smaller, new int[] {0, 1, 2}, 5, 8, 5, 7);
+        dueBound(smaller, 0, 5, 25, 40824);
     }
 
     /** 59049 by 59049 and 26244 by 59049 are compared; tops times bottoms don't fit in an int. */
