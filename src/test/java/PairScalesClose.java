@@ -457,24 +457,40 @@ public final class PairScalesClose extends EdgeTest {
                 }
             }
         }
-        // 125 by 729 and 6 by 35, each with 1 by 9 behind it: 1 in 200,000 between them.
-        PairScales small = new PairScales(6);
-        small.span(4, 5, 1991);
-        spanWay(small, new int[] {0, 3, 4}, 6, 5, 1, 7);
-        spanWay(small, new int[] {0, 1, 2, 4}, 2, 5, 1, 1, 3, 7);
-        dueBound(small, 0, 5, 2, 105);
-        spanWay(small, new int[] {0, 1, 2, 4}, 5, 9, 5, 9, 5, 9);
-        dueBound(small, 0, 5, 125, 6561);
-        spanWay(small, new int[] {0, 3, 4}, 6, 5, 1, 6);
-        dueBound(small, 0, 5, 1, 45);
-        // 25 by 56 and 4 by 9, each with 1 by 729 behind it.
-        PairScales smaller = new PairScales(6);
-        spanWay(smaller, new int[] {2, 3, 4, 5}, 1, 9, 1, 9, 1, 9);
-        spanWay(smaller, new int[] {0, 2}, 4, 9);
-        spanWay(smaller, new int[] {0, 1, 2}, 4, 7, 7, 9);
-        dueBound(smaller, 0, 5, 4, 6561);
-        spanWay(smaller, new int[] {0, 1, 2}, 5, 8, 5, 7);
-        dueBound(smaller, 0, 5, 25, 40824);
+    }
+
+    /** Two ways from 0 to 4, and 1 by 9 behind them: 125 by 729 and 6 by 35 are close. */
+    private static void dueBoundOfSmall(int[] ofThree, int[] ofFour) {
+        PairScales x = new PairScales(6);
+        x.span(4, 5, 1991);
+        spanWay(x, ofThree, 6, 5, 1, 7);
+        spanWay(x, ofFour, 2, 5, 1, 1, 3, 7);
+        dueBound(x, 0, 5, 2, 105);
+        spanWay(x, ofFour, 5, 9, 5, 9, 5, 9);
+        dueBound(x, 0, 5, 125, 6561);
+    }
+
+    /** A span and a way of two spans, and 1 by 729 behind them: 25 by 56 and 4 by 9, 5 by 8 and 28 by 45. */
+    private static void dueBoundOfSmaller(int between, int goal) {
+        PairScales x = new PairScales(6);
+        int[] way = {0, between, goal};
+        spanWay(x, new int[] {goal, 3, 4, 5}, 1, 9, 1, 9, 1, 9);
+        spanWay(x, new int[] {0, goal}, 4, 9);
+        spanWay(x, way, 4, 7, 7, 9);
+        dueBound(x, 0, 5, 4, 6561);
+        spanWay(x, way, 5, 8, 5, 7);
+        dueBound(x, 0, 5, 25, 40824);
+        spanWay(x, new int[] {0, goal}, 5, 8);
+        spanWay(x, way, 4, 5, 7, 9);
+        dueBound(x, 0, 5, 5, 5832);
+    }
+
+    private static void closeWaysOfSmallProducts() {
+        sentence("Promise 16, 'the greatest product of lower ENDS on a way from i to j by SPANS', of small ones");
+        dueBoundOfSmall(new int[] {0, 1, 4}, new int[] {0, 2, 3, 4});
+        dueBoundOfSmall(new int[] {0, 3, 4}, new int[] {0, 1, 2, 4});
+        dueBoundOfSmaller(1, 2);
+        dueBoundOfSmaller(2, 1);
     }
 
     /** 59049 by 59049 and 26244 by 59049 are compared; tops times bottoms don't fit in an int. */
@@ -505,6 +521,7 @@ public final class PairScalesClose extends EdgeTest {
         likeRoots();
         eachWayBesideTheNext();
         closeWays();
+        closeWaysOfSmallProducts();
         waysOfManyDigits();
         end();
     }
