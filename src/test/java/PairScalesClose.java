@@ -19,7 +19,8 @@ public final class PairScalesClose extends EdgeTest {
     /**
      * The order that is due of two things; p, q of the first one over the second one, of the first
      * one over each other one, and of the second one over each other one. Those that are close are as
-     * near as rows of so many can come; of six things, 7 by 5000 and 50 by 35721.
+     * near as rows of so many can come; of six things, 7 by 5000 and 50 by 35721 by what one is of the
+     * other, 5 by 13122 and 1 by 2625 by what is between them.
      */
     private static final int[][] ROWS = {
         {0, 7, 7},
@@ -32,6 +33,8 @@ public final class PairScalesClose extends EdgeTest {
         {1, 7, 5, 7, 5, 1, 5, 1, 8, 5, 9, 5, 9, 2, 9},
         {0, 7, 9, 9, 7, 9, 8, 5, 7, 6, 5, 3, 2, 4, 8, 7, 9, 9, 7},
         {1, 7, 5, 1, 5, 1, 5, 1, 5, 1, 8, 5, 9, 2, 9, 1, 9, 1, 7},
+        {1, 5, 2, 1, 9, 1, 9, 1, 9, 1, 9, 1, 5, 1, 5, 1, 6, 1, 7},
+        // Not close, but the tops times the bottoms don't fit in an int.
         {1, 9, 1, 9, 1, 9, 1, 9, 1, 9, 1, 1, 9, 1, 9, 1, 9, 1, 9},
     };
 
